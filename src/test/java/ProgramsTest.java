@@ -1,0 +1,246 @@
+/** Promises 16 to 20: THE TAPE, TEXTS and PROGRAMS. */
+public final class ProgramsTest {
+    private static final int BEYOND = -1000001;
+    private static final int FULL = -1000002;
+
+    private static final Check CHECK = new Check("ProgramsTest");
+
+    public static void main(String[] args) {
+        feed();
+        wipe();
+        program();
+        sixPrograms();
+        faults();
+        wellFormed();
+        programOf();
+        play();
+        playTicksAndTouches();
+        CHECK.end();
+    }
+
+    private static void due(String what, long got, long want) {
+        CHECK.due(what, got, want);
+    }
+
+    private static void type(LeakCups x, String text) {
+        for (int i = 0; i < text.length(); i++) {
+            x.feed(text.charAt(i), 1);
+        }
+    }
+
+    private static int read(LeakCups x, String text) {
+        type(x, text);
+        return x.program();
+    }
+
+    private static void feed() {
+        LeakCups x = new LeakCups();
+        due("P16 one byte", x.feed(1, 1), 1);
+        due("P16 two", x.feed(1, 2), 3);
+        due("P16 three", x.feed(1, 3), 6);
+        due("P16 four", x.feed(-1, 4), 10);
+        due("P16 none", x.feed(1, 0), BEYOND);
+        due("P16 five", x.feed(1, 5), BEYOND);
+        for (int i = 0; i < 22; i++) {
+            x.feed(0, 4);
+        }
+        due("P16 98", x.count(7), 98);
+        due("P16 too many", x.feed(0, 3), FULL);
+        due("P16 BEYOND ahead of FULL", x.feed(0, 5), BEYOND);
+        due("P16 just as many", x.feed(0, 2), 100);
+        due("P16 full", x.feed(0, 1), FULL);
+        due("P16 FULL is counted", x.status(1), 2);
+        highestFirst();
+    }
+
+    private static void highestFirst() {
+        LeakCups x = new LeakCups();
+        x.feed(0x78746170, 3);
+        x.feed(0x2039, 2);
+        due("P16 the highest first: tap 9", x.program(), 0);
+        x.play(0);
+        due("P16 tap 9", x.count(0), 9);
+    }
+
+    private static void wipe() {
+        LeakCups x = new LeakCups();
+        due("P17 nothing", x.wipe(), 0);
+        type(x, "tap");
+        due("P17 three", x.wipe(), 3);
+        due("P17 empty then", x.count(7), 0);
+        due("P17 and starts anew", read(x, "rub 1"), 0);
+    }
+
+    private static void program() {
+        LeakCups x = new LeakCups();
+        due("P18 number 0", read(x, "tap 30"), 0);
+        due("P18 the tape is empty then", x.count(7), 0);
+        due("P18 with a FAULT", read(x, "tap 30;"), -1 - 7);
+        due("P18 the tape is empty then", x.count(7), 0);
+        due("P18 no PROGRAM more", x.count(6), 1);
+        due("P18 a FAULT is no finding", x.status(-1), 0);
+        due("P18 number 1", read(x, "wait 5"), 1);
+        due("P18 nothing is played", x.count(0), 10);
+    }
+
+    private static void sixPrograms() {
+        LeakCups x = new LeakCups();
+        for (int i = 0; i < 6; i++) {
+            due("P18 number", read(x, "tap " + i), i);
+        }
+        due("P18 no more", read(x, "tap 7"), FULL);
+        due("P18 THE TAPE stays", x.count(7), 5);
+        due("P18 FULL ahead of the FAULT", read(x, ";;"), FULL);
+        due("P18 THE TAPE stays", x.count(7), 7);
+        for (int i = 0; i < 6; i++) {
+            x.play(i);
+            due("P18 PROGRAM " + i, x.count(0), i);
+        }
+    }
+
+    private static void faults() {
+        fault("", 0);
+        fault("   ", 3);
+        fault(";", 0);
+        fault("-", 0);
+        fault("5", 0);
+        fault("cups 1", 0);
+        fault("cu 1", 0);
+        fault("Cup 1", 0);
+        fault("cup", 3);
+        fault("cup ", 4);
+        fault("cup 12", 4);
+        fault("cup -1", 4);
+        fault("cup 1 1", 6);
+        fault("cup 1 tap 1", 6);
+        fault("cup 1-", 5);
+        fault("cup 1,tap 1", 5);
+        fault("cup 1;", 6);
+        fault("cup 1; ", 7);
+        fault("cup 1;;tap 1", 6);
+        fault("cup 1; 7", 7);
+        fault("cup tap", 4);
+        fault("cup ;", 4);
+        fault(" cup\t1", 4);
+        fault("tap 100", 4);
+        fault("tap 99999999999999999999", 4);
+        fault("tap 4294967297", 4);
+        fault("leak 100", 5);
+        fault("rub 100", 4);
+        fault("heavy 0", 6);
+        fault("heavy 100", 6);
+        fault("touch 201", 6);
+        fault("touch - 201", 8);
+        fault("touch --1", 7);
+        fault("touch -", 7);
+        fault("touch - ;", 8);
+        fault("touch", 5);
+        fault("tap - 1", 4);
+        fault("wait -1", 5);
+        fault("wait 0", 5);
+        fault("wait 51", 5);
+        fault("wait 1\u00e9", 6);
+        fault("wait 1\u0000", 6);
+        for (String word : new String[] {"sealed", "cracked", "deep", "small", "tipping", "roped"}) {
+            fault(word + " 12", word.length() + 1);
+        }
+        String twelve = "tap 1;tap 1;tap 1;tap 1;tap 1;tap 1;tap 1;tap 1;tap 1;tap 1;tap 1;tap 1";
+        fault(twelve + ";", 72);
+        fault(twelve + "; tap 1", 73);
+        fault(twelve + "; no", 73);
+        fault(twelve + "tap", 71);
+    }
+
+    private static void fault(String text, int place) {
+        LeakCups x = new LeakCups();
+        due("P18 FAULT of '" + text + "'", read(x, text), -1 - place);
+        due("P18 no PROGRAM of '" + text + "'", x.count(6), 0);
+        due("P18 no finding of '" + text + "'", x.status(-1), 0);
+        due("P18 THE TAPE behind '" + text + "'", x.count(7), 0);
+    }
+
+    private static void wellFormed() {
+        well("cup0", 1, 0);
+        well("  cup  11  ", 1, 0);
+        well("cup 0007;rub 000", 2, 0);
+        well("sealed 0;cracked 1;deep 2;small 3;tipping 4;roped 11", 6, 0);
+        well("tap 0;tap 99;leak 0;leak 99;rub 0;rub 99;heavy 1;heavy 99", 8, 0);
+        well("touch 0;touch 200;touch-200;touch - 0", 4, 0);
+        well("wait 1;tap 1;wait50;wait 9", 4, 60);
+        well("tap 1;tap 1;tap 1;tap 1;tap 1;tap 1;tap 1;tap 1;tap 1;tap 1;tap 1;tap 1", 12, 0);
+        well("wait 50;wait 50;wait 50;wait 50;wait 50;wait 50;wait 50;wait 50;wait 50;wait 50;wait 50;wait 50", 12, 600);
+    }
+
+    private static void well(String text, int deeds, int ticks) {
+        LeakCups x = new LeakCups();
+        due("P18 '" + text + "'", read(x, text), 0);
+        due("P19 DEEDS of '" + text + "'", x.programOf(0, 0), deeds);
+        due("P19 TICKS of '" + text + "'", x.programOf(0, 1), ticks);
+    }
+
+    private static void programOf() {
+        LeakCups x = new LeakCups();
+        due("P19 none yet", x.programOf(0, 0), BEYOND);
+        read(x, "wait 5;wait 6");
+        read(x, "tap 50");
+        read(x, "wait 9;");
+        due("P19 DEEDS of the second", x.programOf(1, 0), 1);
+        due("P19 TICKS of the second", x.programOf(1, 1), 0);
+        due("P19 the first stays", x.programOf(0, 1), 11);
+        due("P19 one with a FAULT is none", x.programOf(2, 0), BEYOND);
+        due("P19 no such program", x.programOf(-1, 0), BEYOND);
+        due("P19 no such what", x.programOf(0, 2), BEYOND);
+        due("P19 no such what", x.programOf(0, -1), BEYOND);
+        due("P19 nothing is played", x.now(6), 0);
+        read(x, "tap 1;tap 2;tap 3");
+        due("P19 nothing of one with a FAULT is left", x.programOf(2, 1), 0);
+        due("P19 its DEEDS", x.programOf(2, 0), 3);
+    }
+
+    private static void play() {
+        LeakCups x = new LeakCups();
+        due("P20 none yet", x.play(0), BEYOND);
+        read(x, "sealed 1;cracked 2;deep 3;small 4;tipping 5;roped 6;tap 11;leak 12;rub 13;heavy 14;cup 8");
+        x.kind(8, 3);
+        x.touch(33);
+        due("P20 PACE", x.play(0), 33);
+        for (int cup = 0; cup < 7; cup++) {
+            due("P20 KIND of " + cup, x.cupOf(cup, 0), cup);
+        }
+        due("P20 CUP again", x.cupOf(8, 0), 0);
+        for (int what = 0; what < 4; what++) {
+            due("P20 what is set " + what, x.count(what), 11 + what);
+        }
+        due("P20 no TICK", x.now(6), 0);
+        due("P20 no such program", x.play(1), BEYOND);
+        due("P20 no such program", x.play(-1), BEYOND);
+    }
+
+    private static void playTicksAndTouches() {
+        LeakCups x = new LeakCups();
+        read(x, "tap 77;rub 2;touch 150;wait 50;touch - 200;heavy 3;wait 7;touch 20");
+        Model model = new Model();
+        for (int again = 0; again < 6; again++) {
+            int got = x.play(0);
+            modelled(model);
+            due("P20 PACE", got, model.pace);
+            model.compare(CHECK, x, "P20 played " + again);
+        }
+        due("P20 TICKS", x.now(6), 6 * 57);
+    }
+
+    private static void modelled(Model model) {
+        model.tap = 77;
+        model.rub = 2;
+        model.touch(150);
+        for (int t = 0; t < 50; t++) {
+            model.tick();
+        }
+        model.touch(-200);
+        model.heavy = 3;
+        for (int t = 0; t < 7; t++) {
+            model.tick();
+        }
+        model.touch(20);
+    }
+}
