@@ -16,6 +16,7 @@ public final class AheadTest {
         }
         still();
         evenSettlingTurning();
+        behindTurns();
         tapFor();
         bounds();
         often();
@@ -293,7 +294,44 @@ public final class AheadTest {
         return x;
     }
 
+    /** TURNS that came ahead of now are none of those to come. */
+    private static void behindTurns() {
+        LeakCups x = plain();
+        x.touch(1);
+        x.fill(9, 3);
+        x.tick(1);
+        due("a TURN ahead of now", x.count(5), 1);
+        x.empty(9);
+        x.stop(0);
+        x.touch(4);
+        due("P21 no TURN to come", x.ahead(10, 3), 0);
+        due("P24 no TURN to come", x.going(10), 1);
+        due("P25 no TURN to come", x.tapFor(1, 10), 0);
+        due("P28 no TURN to come", x.holds(10), 0);
+        x.set(3, 99);
+        x.fill(9, 99);
+        // PACE 3, 2, 1, 0, -1: a TURN in TICK 5
+        due("P21 none yet", x.ahead(4, 3), 0);
+        due("P21 one", x.ahead(5, 3), 1);
+        due("P24 SETTLING", x.going(10), 2);
+        due("P28 held for a TICK more", x.holds(5), 1);
+    }
+
     private static void tapFor() {
+        int[][] only99 = {{1, 2}, {2, 157}, {3, 2251}};
+        for (int[] row : only99) {
+            LeakCups tapped = new LeakCups();
+            new Model().disturb(tapped, row[1]);
+            due("P25 99 alone goes " + row[0], tapped.tapFor(row[0], 20), 99);
+            for (int tap = 0; tap <= 99; tap++) {
+                tapped.set(0, tap);
+                CHECK.holds("P25 not " + tap, (tapped.going(20) == row[0]) == (tap == 99));
+            }
+        }
+        tapForAtRest();
+    }
+
+    private static void tapForAtRest() {
         LeakCups x = plain();
         x.set(1, 5);
         x.stop(300);
@@ -328,6 +366,11 @@ public final class AheadTest {
         due("P23 never", x.parts(7, 8), NONE);
         due("P23 no TOUCH", x.parts(0, 1), NONE);
         due("P22 at once", x.apart(-7, 0), 7);
+        LeakCups late = new LeakCups();
+        new Model().disturb(late, 20);
+        int most = late.apart(50, 400);
+        due("P23 behind the last TICK", late.parts(50, most), 400);
+        due("P23 not so soon", late.parts(50, most + 1), NONE);
         for (int i = 0; i < 3; i++) {
             x.touch(199);
         }
@@ -355,6 +398,15 @@ public final class AheadTest {
         fast.fill(9, 999);
         due("P28 none", fast.holds(1), NONE);
         due("P28 NONE is counted", fast.status(3), 1);
+        fast.empty(9);
+        fast.fill(9, 250);
+        due("P28 the greatest: PACE 0 is no TURN", fast.holds(1), 50);
+        fast.fill(9, 1);
+        due("P28 one more is too much", fast.holds(1), NONE);
+        LeakCups back = plain();
+        back.touch(-200);
+        back.fill(3, 250);
+        due("P28 the least", back.holds(1), -50);
     }
 
     private static void draws() {

@@ -106,6 +106,8 @@ public final class ProgramsTest {
         fault("5", 0);
         fault("cups 1", 0);
         fault("cu 1", 0);
+        fault("xup 1", 0);
+        fault("cux 1", 0);
         fault("Cup 1", 0);
         fault("cup", 3);
         fault("cup ", 4);
@@ -162,6 +164,8 @@ public final class ProgramsTest {
     private static void wellFormed() {
         well("cup0", 1, 0);
         well("  cup  11  ", 1, 0);
+        well("cup 0;sealed 0;cracked 0;deep 0;small 0;tipping 0;roped 0", 7, 0);
+        well("sealed 11;cracked 11;deep 11;small 11;tipping 11;roped 11", 6, 0);
         well("cup 0007;rub 000", 2, 0);
         well("sealed 0;cracked 1;deep 2;small 3;tipping 4;roped 11", 6, 0);
         well("tap 0;tap 99;leak 0;leak 99;rub 0;rub 99;heavy 1;heavy 99", 8, 0);

@@ -117,6 +117,7 @@ public final class SheetsTest {
             due("P35 41", x.sheet(0, bits, 41), BEYOND);
             due("P35 -1", x.sheet(0, bits, -1), SIZE);
             due("P35 nothing changed", x.write(0, 39, 1), 1);
+            due("P35 nothing changed", x.write(0, 0, 1), 1);
         }
         due("P35 all 0 again", x.sheet(0, 32, 40), 40);
         due("P35 all 0 again", x.judge(0), 0);

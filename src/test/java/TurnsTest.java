@@ -135,6 +135,7 @@ public final class TurnsTest {
         LeakCups one = swung(5, -8);
         due("P13 one TURN", one.nextPeak(5), NONE);
         due("P13 NONE is counted", one.status(3), 1);
+        due("P13 two TURNS", swung(5, -8, 1).nextPeak(600), 8);
         // PEAKS 50, 80, 40, 80, 10, 60
         LeakCups x = swung(50, -80, 40, -80, 10, -60, 1);
         due("P13 just one", x.nextPeak(50), 80);
