@@ -33,15 +33,6 @@ public final class AheadTest {
         CHECK.due(what, got, want);
     }
 
-    private static LeakCups plain() {
-        LeakCups x = new LeakCups();
-        x.set(0, 0);
-        x.set(1, 0);
-        x.set(2, 0);
-        x.set(3, 1);
-        return x;
-    }
-
     /** A wheel that turns now and then. */
     private static LeakCups some(int seed) {
         LeakCups x = new LeakCups();
@@ -240,7 +231,7 @@ public final class AheadTest {
     }
 
     private static void still() {
-        LeakCups x = plain();
+        LeakCups x = Make.plain();
         due("P24 nothing moves", x.going(10), 0);
         x.set(2, 50);
         // PACE 16, 8, 4, 2, 1, and at 1 the rub is 0: it goes on
@@ -258,7 +249,7 @@ public final class AheadTest {
      * TICK on that the TOUCH tells.
      */
     private static LeakCups turningAt(int tick) {
-        LeakCups x = plain();
+        LeakCups x = Make.plain();
         x.set(3, 99);
         x.fill(9, 99);
         // torque about -9900 by 9900: 1 less each TICK, while CUP 9 is at PLACE 9
@@ -284,7 +275,7 @@ public final class AheadTest {
      * CUP 4 has too little.
      */
     private static LeakCups stopping() {
-        LeakCups x = plain();
+        LeakCups x = Make.plain();
         x.set(1, 50);
         x.set(3, 10);
         x.kind(7, 5);
@@ -296,7 +287,7 @@ public final class AheadTest {
 
     /** TURNS that came ahead of now are none of those to come. */
     private static void behindTurns() {
-        LeakCups x = plain();
+        LeakCups x = Make.plain();
         x.touch(1);
         x.fill(9, 3);
         x.tick(1);
@@ -328,11 +319,15 @@ public final class AheadTest {
                 CHECK.holds("P25 not " + tap, (tapped.going(20) == row[0]) == (tap == 99));
             }
         }
+        LeakCups by100 = new LeakCups();
+        new Model().disturb(by100, 69);
+        // with a TAP of 100, if there were one, it would be TURNING
+        due("P25 99 is the greatest TAP", by100.tapFor(3, 20), NONE);
         tapForAtRest();
     }
 
     private static void tapForAtRest() {
-        LeakCups x = plain();
+        LeakCups x = Make.plain();
         x.set(1, 5);
         x.stop(300);
         // CUP 9 is at PLACE 0, lever 0, the wheel is at rest: water from above doesn't move it
@@ -361,7 +356,7 @@ public final class AheadTest {
     }
 
     private static void parts() {
-        LeakCups x = plain();
+        LeakCups x = Make.plain();
         due("P23 at once", x.parts(-7, 7), 0);
         due("P23 never", x.parts(7, 8), NONE);
         due("P23 no TOUCH", x.parts(0, 1), NONE);
@@ -383,17 +378,17 @@ public final class AheadTest {
         // it turns in TICK 3 if not by a TOUCH of some TICKS more
         due("P28 by so much more", turningAt(3).holds(5), 3);
         due("P28 up to the TICK", turningAt(3).holds(2), 0);
-        LeakCups down = plain();
+        LeakCups down = Make.plain();
         down.touch(1);
         down.fill(9, 30);
         // -30 a TICK: to stay above 0 takes 30 (PACE 0 is no TURN), to be below it at once -2
         due("P28 by a TOUCH the other way", down.holds(1), -2);
-        LeakCups up = plain();
+        LeakCups up = Make.plain();
         up.touch(-1);
         up.fill(3, 30);
         due("P28 by 2 ahead of -2", up.holds(1), 2);
         // with PACE 600 even 50 less leaves it as it goes
-        LeakCups fast = plain();
+        LeakCups fast = Make.plain();
         fast.touch(200);
         fast.fill(9, 999);
         due("P28 none", fast.holds(1), NONE);
@@ -403,7 +398,7 @@ public final class AheadTest {
         due("P28 the greatest: PACE 0 is no TURN", fast.holds(1), 50);
         fast.fill(9, 1);
         due("P28 one more is too much", fast.holds(1), NONE);
-        LeakCups back = plain();
+        LeakCups back = Make.plain();
         back.touch(-200);
         back.fill(3, 250);
         due("P28 the least", back.holds(1), -50);
@@ -411,7 +406,7 @@ public final class AheadTest {
 
     private static void draws() {
         // nothing pulls: PACE is the TOUCH's. Z 1 becomes 1103527590, gives 4310654: by 21 the rest is 5, a TOUCH by -5
-        LeakCups x = plain();
+        LeakCups x = Make.plain();
         x.touch(5);
         due("P29 one draw", x.chance(1, 1), 0);
         x.seed(1);

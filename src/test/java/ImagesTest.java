@@ -23,13 +23,6 @@ public final class ImagesTest {
         CHECK.due(what, got, want);
     }
 
-    private static int read(LeakCups x, String text) {
-        for (int i = 0; i < text.length(); i++) {
-            x.feed(text.charAt(i), 1);
-        }
-        return x.program();
-    }
-
     private static void change(LeakCups x, int by) {
         for (int what = 0; what < 4; what++) {
             x.set(what, 3 + what + by);
@@ -40,7 +33,7 @@ public final class ImagesTest {
         x.tick(20 + by);
         x.hold(0, by);
         x.seed(70 + by);
-        read(x, "wait " + (1 + by));
+        Make.read(x, "wait " + (1 + by));
     }
 
     private static void allIsKept() {
@@ -98,12 +91,12 @@ public final class ImagesTest {
 
     private static void programsOfAnImage() {
         LeakCups x = new LeakCups();
-        read(x, "wait 1");
+        Make.read(x, "wait 1");
         x.image();
-        read(x, "wait 2;tap 5");
+        Make.read(x, "wait 2;tap 5");
         x.undo();
         due("P41 that PROGRAM isn't there", x.programOf(1, 0), BEYOND);
-        due("P41 its number comes again", read(x, "wait 3"), 1);
+        due("P41 its number comes again", Make.read(x, "wait 3"), 1);
         due("P41 it is the new one", x.programOf(1, 1), 3);
         due("P41 it is the new one", x.programOf(1, 0), 1);
         due("P41 the kept one", x.programOf(0, 1), 1);
@@ -148,8 +141,8 @@ public final class ImagesTest {
         for (int what = 0; what < 4; what++) {
             x.set(what, 21 + what);
         }
-        read(x, "tap 1");
-        read(x, "tap 2");
+        Make.read(x, "tap 1");
+        Make.read(x, "tap 2");
         x.feed(0, 3);
         x.seed(-5);
         int[] want = {21, 22, 23, 24, 0, 0, 2, 3, -5};

@@ -12,6 +12,8 @@ public final class ProgramsTest {
         sixPrograms();
         faults();
         wellFormed();
+        wholeTape();
+        shorterBehindLonger();
         programOf();
         play();
         playTicksAndTouches();
@@ -20,17 +22,6 @@ public final class ProgramsTest {
 
     private static void due(String what, long got, long want) {
         CHECK.due(what, got, want);
-    }
-
-    private static void type(LeakCups x, String text) {
-        for (int i = 0; i < text.length(); i++) {
-            x.feed(text.charAt(i), 1);
-        }
-    }
-
-    private static int read(LeakCups x, String text) {
-        type(x, text);
-        return x.program();
     }
 
     private static void feed() {
@@ -65,32 +56,32 @@ public final class ProgramsTest {
     private static void wipe() {
         LeakCups x = new LeakCups();
         due("P17 nothing", x.wipe(), 0);
-        type(x, "tap");
+        Make.type(x, "tap");
         due("P17 three", x.wipe(), 3);
         due("P17 empty then", x.count(7), 0);
-        due("P17 and starts anew", read(x, "rub 1"), 0);
+        due("P17 and starts anew", Make.read(x, "rub 1"), 0);
     }
 
     private static void program() {
         LeakCups x = new LeakCups();
-        due("P18 number 0", read(x, "tap 30"), 0);
+        due("P18 number 0", Make.read(x, "tap 30"), 0);
         due("P18 the tape is empty then", x.count(7), 0);
-        due("P18 with a FAULT", read(x, "tap 30;"), -1 - 7);
+        due("P18 with a FAULT", Make.read(x, "tap 30;"), -1 - 7);
         due("P18 the tape is empty then", x.count(7), 0);
         due("P18 no PROGRAM more", x.count(6), 1);
         due("P18 a FAULT is no finding", x.status(-1), 0);
-        due("P18 number 1", read(x, "wait 5"), 1);
+        due("P18 number 1", Make.read(x, "wait 5"), 1);
         due("P18 nothing is played", x.count(0), 10);
     }
 
     private static void sixPrograms() {
         LeakCups x = new LeakCups();
         for (int i = 0; i < 6; i++) {
-            due("P18 number", read(x, "tap " + i), i);
+            due("P18 number", Make.read(x, "tap " + i), i);
         }
-        due("P18 no more", read(x, "tap 7"), FULL);
+        due("P18 no more", Make.read(x, "tap 7"), FULL);
         due("P18 THE TAPE stays", x.count(7), 5);
-        due("P18 FULL ahead of the FAULT", read(x, ";;"), FULL);
+        due("P18 FULL ahead of the FAULT", Make.read(x, ";;"), FULL);
         due("P18 THE TAPE stays", x.count(7), 7);
         for (int i = 0; i < 6; i++) {
             x.play(i);
@@ -155,7 +146,7 @@ public final class ProgramsTest {
 
     private static void fault(String text, int place) {
         LeakCups x = new LeakCups();
-        due("P18 FAULT of '" + text + "'", read(x, text), -1 - place);
+        due("P18 FAULT of '" + text + "'", Make.read(x, text), -1 - place);
         due("P18 no PROGRAM of '" + text + "'", x.count(6), 0);
         due("P18 no finding of '" + text + "'", x.status(-1), 0);
         due("P18 THE TAPE behind '" + text + "'", x.count(7), 0);
@@ -177,17 +168,42 @@ public final class ProgramsTest {
 
     private static void well(String text, int deeds, int ticks) {
         LeakCups x = new LeakCups();
-        due("P18 '" + text + "'", read(x, text), 0);
+        due("P18 '" + text + "'", Make.read(x, text), 0);
         due("P19 DEEDS of '" + text + "'", x.programOf(0, 0), deeds);
         due("P19 TICKS of '" + text + "'", x.programOf(0, 1), ticks);
+    }
+
+    private static void wholeTape() {
+        StringBuilder text = new StringBuilder("wait 5");
+        while (text.length() < 99) {
+            text.append(' ');
+        }
+        fault(text + ";", 100);
+        well(text + " ", 1, 5);
+        text.setCharAt(98, '7');
+        fault(text + "7", 98);
+        fault("tap " + "9".repeat(96), 4);
+        well("tap " + "0".repeat(95) + "9", 1, 0);
+        fault("w".repeat(100), 0);
+    }
+
+    /** What an earlier TEXT left behind the end of THE TAPE is not read. */
+    private static void shorterBehindLonger() {
+        LeakCups x = new LeakCups();
+        due("P18 longer", Make.read(x, "cup 5;tap 77"), 0);
+        due("P18 no number of its own", Make.read(x, "cup "), -1 - 4);
+        due("P18 no WORD of its own", Make.read(x, "cup 5;"), -1 - 6);
+        due("P18 its own number", Make.read(x, "cup 5;tap 7"), 1);
+        x.play(1);
+        due("P18 its own number", x.count(0), 7);
     }
 
     private static void programOf() {
         LeakCups x = new LeakCups();
         due("P19 none yet", x.programOf(0, 0), BEYOND);
-        read(x, "wait 5;wait 6");
-        read(x, "tap 50");
-        read(x, "wait 9;");
+        Make.read(x, "wait 5;wait 6");
+        Make.read(x, "tap 50");
+        Make.read(x, "wait 9;");
         due("P19 DEEDS of the second", x.programOf(1, 0), 1);
         due("P19 TICKS of the second", x.programOf(1, 1), 0);
         due("P19 the first stays", x.programOf(0, 1), 11);
@@ -196,7 +212,7 @@ public final class ProgramsTest {
         due("P19 no such what", x.programOf(0, 2), BEYOND);
         due("P19 no such what", x.programOf(0, -1), BEYOND);
         due("P19 nothing is played", x.now(6), 0);
-        read(x, "tap 1;tap 2;tap 3");
+        Make.read(x, "tap 1;tap 2;tap 3");
         due("P19 nothing of one with a FAULT is left", x.programOf(2, 1), 0);
         due("P19 its DEEDS", x.programOf(2, 0), 3);
     }
@@ -204,7 +220,7 @@ public final class ProgramsTest {
     private static void play() {
         LeakCups x = new LeakCups();
         due("P20 none yet", x.play(0), BEYOND);
-        read(x, "sealed 1;cracked 2;deep 3;small 4;tipping 5;roped 6;tap 11;leak 12;rub 13;heavy 14;cup 8");
+        Make.read(x, "sealed 1;cracked 2;deep 3;small 4;tipping 5;roped 6;tap 11;leak 12;rub 13;heavy 14;cup 8");
         x.kind(8, 3);
         x.touch(33);
         due("P20 PACE", x.play(0), 33);
@@ -222,7 +238,7 @@ public final class ProgramsTest {
 
     private static void playTicksAndTouches() {
         LeakCups x = new LeakCups();
-        read(x, "tap 77;rub 2;touch 150;wait 50;touch - 200;heavy 3;wait 7;touch 20");
+        Make.read(x, "tap 77;rub 2;touch 150;wait 50;touch - 200;heavy 3;wait 7;touch 20");
         Model model = new Model();
         for (int again = 0; again < 6; again++) {
             int got = x.play(0);

@@ -23,15 +23,6 @@ public final class TurnsTest {
         CHECK.due(what, got, want);
     }
 
-    private static LeakCups plain() {
-        LeakCups x = new LeakCups();
-        x.set(0, 0);
-        x.set(1, 0);
-        x.set(2, 0);
-        x.set(3, 1);
-        return x;
-    }
-
     /** One TICK from rest, behind which PACE is as told: of another sign than ahead of it, that is a TURN. */
     private static void swing(LeakCups x, int pace) {
         x.stop(0);
@@ -48,7 +39,7 @@ public final class TurnsTest {
     }
 
     private static LeakCups swung(int... paces) {
-        LeakCups x = plain();
+        LeakCups x = Make.plain();
         for (int pace : paces) {
             swing(x, pace);
         }
@@ -56,7 +47,7 @@ public final class TurnsTest {
     }
 
     private static void emptyLog() {
-        LeakCups x = plain();
+        LeakCups x = Make.plain();
         due("P12 none", x.turn(0, 0), BEYOND);
         due("P13 none", x.nextPeak(5), NONE);
         due("P14 none", x.rising(), 0);
@@ -82,7 +73,7 @@ public final class TurnsTest {
     }
 
     private static void firstTickTurns() {
-        LeakCups x = plain();
+        LeakCups x = Make.plain();
         x.touch(50);
         swing(x, -3);
         due("P12 a TURN in the first TICK", x.turn(0, 0), 1);
@@ -90,7 +81,7 @@ public final class TurnsTest {
     }
 
     private static void touchIsNoTurn() {
-        LeakCups x = plain();
+        LeakCups x = Make.plain();
         swing(x, 5);
         x.touch(-200);
         due("a TOUCH is no TURN", x.count(5), 0);
@@ -104,7 +95,7 @@ public final class TurnsTest {
     }
 
     private static void stillBetween() {
-        LeakCups x = plain();
+        LeakCups x = Make.plain();
         swing(x, 5);
         rest(x, 10);
         due("PACE 0 is no TURN", x.count(5), 0);
@@ -117,7 +108,7 @@ public final class TurnsTest {
     }
 
     private static void fullLog() {
-        LeakCups x = plain();
+        LeakCups x = Make.plain();
         for (int i = 0; i <= 43; i++) {
             swing(x, i % 2 == 0 ? 100 + i : -100 - i);
         }
@@ -159,7 +150,7 @@ public final class TurnsTest {
     }
 
     private static void quickest() {
-        LeakCups x = plain();
+        LeakCups x = Make.plain();
         swing(x, 5);
         swing(x, -5);
         due("P15 one", x.quickest(), NONE);

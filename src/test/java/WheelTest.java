@@ -27,16 +27,6 @@ public final class WheelTest {
         CHECK.end();
     }
 
-    /** A wheel without tap, leak and rub, HEAVY 1: PACE grows by torque by 100 alone. */
-    private static LeakCups plain() {
-        LeakCups x = new LeakCups();
-        x.set(0, 0);
-        x.set(1, 0);
-        x.set(2, 0);
-        x.set(3, 1);
-        return x;
-    }
-
     private static void due(String what, long got, long want) {
         CHECK.due(what, got, want);
     }
@@ -223,7 +213,7 @@ public final class WheelTest {
     }
 
     private static void tickPace() {
-        LeakCups x = plain();
+        LeakCups x = Make.plain();
         x.fill(3, 10);
         due("P9 by torque", x.tick(1), 10);
         due("P9 ANGLE", x.now(1), 10);
@@ -246,7 +236,7 @@ public final class WheelTest {
         x.fill(4, 999);
         due("P9 held", x.tick(1), 600);
         due("P9 ANGLE goes round", x.now(1), 599);
-        LeakCups held = plain();
+        LeakCups held = Make.plain();
         held.set(2, 50);
         held.fill(3, 999);
         held.fill(4, 999);
@@ -254,7 +244,7 @@ public final class WheelTest {
     }
 
     private static void tickWater() {
-        LeakCups x = plain();
+        LeakCups x = Make.plain();
         x.set(0, 60);
         x.set(1, 10);
         x.fill(0, 960);
@@ -277,7 +267,7 @@ public final class WheelTest {
     }
 
     private static void tickKinds() {
-        LeakCups x = plain();
+        LeakCups x = Make.plain();
         x.set(1, 20);
         for (int cup = 0; cup < 6; cup++) {
             x.kind(cup, cup);
@@ -296,7 +286,7 @@ public final class WheelTest {
     }
 
     private static void ropes() {
-        LeakCups x = plain();
+        LeakCups x = Make.plain();
         x.kind(11, 6);
         x.fill(11, 2);
         x.tick(1);
@@ -306,7 +296,7 @@ public final class WheelTest {
         due("P9 as much as the next: none goes", x.cupOf(11, 1), 1);
         due("P9 what goes to the next is not lost", x.now(5), 0);
 
-        LeakCups row = plain();
+        LeakCups row = Make.plain();
         row.kind(0, 6);
         row.kind(1, 6);
         row.fill(0, 5);
@@ -317,7 +307,7 @@ public final class WheelTest {
         due("P9 by numbers: 1", row.cupOf(1, 1), 4);
         due("P9 by numbers: 2", row.cupOf(2, 1), 5);
 
-        LeakCups full = plain();
+        LeakCups full = Make.plain();
         full.fill(4, 300);
         full.kind(4, 6);
         full.kind(5, 4);
@@ -325,7 +315,7 @@ public final class WheelTest {
         full.tick(1);
         due("P9 no room in the next", full.cupOf(4, 1), 300);
 
-        LeakCups leaking = plain();
+        LeakCups leaking = Make.plain();
         leaking.set(1, 10);
         leaking.kind(4, 6);
         leaking.kind(5, 1);
