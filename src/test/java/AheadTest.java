@@ -15,6 +15,7 @@ public final class AheadTest {
             chanceLikeTheWheel(seed);
         }
         still();
+        stillFromTheLatterHalf();
         evenSettlingTurning();
         behindTurns();
         tapFor();
@@ -244,6 +245,29 @@ public final class AheadTest {
         due("P24 a PACE of 1 is not still", x.going(10), 1);
     }
 
+    /** A PACE that goes down to 0 without a TURN, and stays there: by a TOUCH against what leaks from CUP 9. */
+    private static LeakCups stoppingAbove0(int leak, int by) {
+        LeakCups x = Make.plain();
+        x.set(1, leak);
+        x.set(3, 20);
+        x.fill(9, 300);
+        x.touch(by);
+        return x;
+    }
+
+    private static void stillFromTheLatterHalf() {
+        LeakCups behind5 = stoppingAbove0(33, 26);
+        CHECK.holds("the last PACE is behind TICK 5", behind5.ahead(5, 0) > 0 && behind5.ahead(6, 0) == 0);
+        due("P24 0 from TICK 6 of 10 on", behind5.going(10), 0);
+        due("P24 0 from TICK 6 of 11 on", behind5.going(11), 0);
+        LeakCups behind6 = stoppingAbove0(30, 29);
+        CHECK.holds("the last PACE is behind TICK 6", behind6.ahead(6, 0) > 0 && behind6.ahead(7, 0) == 0);
+        due("P24 not 0 in TICK 6 of 10", behind6.going(10), 1);
+        due("P24 not 0 in TICK 6 of 11", behind6.going(11), 1);
+        due("P24 0 from TICK 7 of 12 on", behind6.going(12), 0);
+        due("P24 0 from TICK 7 of 400 on", behind6.going(400), 0);
+    }
+
     /**
      * CUP 9 full of water that pulls against a TOUCH: PACE goes down by the same each TICK, and is below 0 from a
      * TICK on that the TOUCH tells.
@@ -371,6 +395,26 @@ public final class AheadTest {
         }
         due("P22 held", x.apart(200, 0), 3);
         due("P22 below", x.apart(-200, 0), 200);
+        asFarAsCanBe();
+    }
+
+    /** CUPS 0, 1 and 11 stand above: the wheel falls to one side, and with the TOUCH to the other. */
+    private static void asFarAsCanBe() {
+        LeakCups x = Make.plain();
+        x.fill(0, 999);
+        x.fill(1, 500);
+        x.fill(11, 500);
+        x.touch(-100);
+        due("P22 behind 0", x.apart(200, 0), 200);
+        due("P22 behind 1", x.apart(200, 1), 200);
+        due("P22 behind 2", x.apart(200, 2), 1200);
+        due("P23 by the most that can be", x.parts(200, 1200), 2);
+        due("P23 by as much as at once", x.parts(200, 200), 0);
+        due("P23 by one more", x.parts(200, 201), 2);
+        due("P26 the least that can be", x.bounds(2, 0), -600);
+        x.touch(200);
+        due("P26 the greatest that can be", x.bounds(2, 1), 600);
+        due("P23 by a TOUCH down", x.parts(-200, 1200), 2);
     }
 
     private static void holds() {
@@ -420,6 +464,24 @@ public final class AheadTest {
         due("P29 by -10 at the least", x.chance(20, 200), 20);
         x.touch(-22);
         due("P29 by 10 at most", x.chance(20, 200), 0);
+        // of the least and of the greatest TOUCH one from a Z above 0 and one from a Z below 0: Z >>> 8 has no sign
+        touchedBy(-10, -170, false);
+        touchedBy(-10, -169, true);
+        touchedBy(10, -194, false);
+        touchedBy(10, -168, true);
+    }
+
+    /** From this Z the first draw is a TOUCH by so much. */
+    private static void touchedBy(int by, int z, boolean isBelow0) {
+        LeakCups x = Make.plain();
+        String told = "P29 Z " + z + ", by " + by;
+        x.touch(-by);
+        x.seed(z);
+        due(told + ": PACE 0", x.chance(1, 1), 0);
+        CHECK.holds(told + ": Z is below 0 then", x.count(8) < 0 == isBelow0);
+        x.touch(1);
+        x.seed(z);
+        due(told + ": PACE 1", x.chance(1, 1), 1);
     }
 
     private static void brief() {
@@ -475,6 +537,18 @@ public final class AheadTest {
         for (int from = -999; from <= 999; from += 74) {
             due("P31 from " + from, x.flips(from, -from, 200), flipsOf(from, -from, 200));
             due("P31 from " + from, x.flips(from % 7, 40, 200), flipsOf(from % 7, 40, 200));
+        }
+        flipsOver0();
+    }
+
+    /** Small ones, of which many stand at 0 for a while and go on as they came, or to the other side. */
+    private static void flipsOver0() {
+        for (int from = -20; from <= 20; from++) {
+            LeakCups x = new LeakCups();
+            for (int y = -90; y <= 90; y += 5) {
+                due("P31 from " + from + ", " + y, x.flips(from, y, 200), flipsOf(from, y, 200));
+                due("P31 from " + from + ", " + y, x.flips(from, y, 9), flipsOf(from, y, 9));
+            }
         }
     }
 

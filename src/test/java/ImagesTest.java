@@ -1,6 +1,7 @@
 /** Promises 40 to 44: images, count() and status(). */
 public final class ImagesTest {
     private static final int BEYOND = -1000001;
+    private static final int FULL = -1000002;
     private static final int NONE = -1000004;
     private static final int MISSING = -1000006;
 
@@ -11,6 +12,8 @@ public final class ImagesTest {
         whatIsNotKept();
         theLatestStays();
         programsOfAnImage();
+        roomForPrograms();
+        imageOfNothing();
         goesOnAlike();
         tear();
         count();
@@ -100,6 +103,39 @@ public final class ImagesTest {
         due("P41 it is the new one", x.programOf(1, 1), 3);
         due("P41 it is the new one", x.programOf(1, 0), 1);
         due("P41 the kept one", x.programOf(0, 1), 1);
+    }
+
+    private static void roomForPrograms() {
+        LeakCups x = new LeakCups();
+        for (int i = 0; i < 5; i++) {
+            Make.read(x, "wait " + (1 + i));
+        }
+        x.image();
+        due("P18 the last", Make.read(x, "wait 50"), 5);
+        due("P18 FULL", Make.read(x, "wait 49"), FULL);
+        x.undo();
+        due("P41 PROGRAMS are five again", x.count(6), 5);
+        due("P41 THE TAPE isn't kept", x.program(), 5);
+        due("P41 the new one", x.programOf(5, 1), 49);
+        x.image();
+        x.feed(' ', 1);
+        due("P18 FULL", x.program(), FULL);
+        x.undo();
+        due("P41 PROGRAMS are six", x.count(6), 6);
+        due("P41 FULL as it was", x.program(), FULL);
+        due("P44 undo() takes none back", x.status(1), 3);
+    }
+
+    /** A new object is something to keep. */
+    private static void imageOfNothing() {
+        LeakCups x = new LeakCups();
+        x.image();
+        change(x, 1);
+        due("P41 TICKS so far", x.undo(), 0);
+        due("P41 as at first", Prints.of(x), Prints.of(new LeakCups()));
+        due("P41 the SPOT too", x.as(0, 0), MISSING);
+        due("P42 something was kept", x.tear(), 1);
+        due("P41 and what is now stays", Prints.whole(x), Prints.whole(new LeakCups()));
     }
 
     /** What is not told at once, such as the PEAK so far, is kept too. */

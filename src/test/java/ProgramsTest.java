@@ -11,6 +11,9 @@ public final class ProgramsTest {
         program();
         sixPrograms();
         faults();
+        bytesNextToTokens();
+        thirteenthDeed();
+        everyWord();
         wellFormed();
         wholeTape();
         shorterBehindLonger();
@@ -51,6 +54,14 @@ public final class ProgramsTest {
         due("P16 the highest first: tap 9", x.program(), 0);
         x.play(0);
         due("P16 tap 9", x.count(0), 9);
+        x.feed('t' + 0x6b00, 1);
+        x.feed(0x7f006170, 2);
+        x.feed(0x80203720, 3);
+        due("P16 the lowest alone", x.program(), 1);
+        x.play(1);
+        due("P16 tap 7", x.count(0), 7);
+        x.feed(0xff746170, 4);
+        due("P16 the highest too", x.program(), -1);
     }
 
     private static void wipe() {
@@ -142,6 +153,112 @@ public final class ProgramsTest {
         fault(twelve + "; tap 1", 73);
         fault(twelve + "; no", 73);
         fault(twelve + "tap", 71);
+    }
+
+    /** What stands next to letters, digits, blanks and SIGNS among the bytes begins no TOKEN and ends one. */
+    private static void bytesNextToTokens() {
+        String others = "`{/:!,.<\u001f\u0000\t\n@AZ\u007f\u00a0\u00ad\u00b1\u00bb\u00e3\u00ff";
+        for (int i = 0; i < others.length(); i++) {
+            char other = others.charAt(i);
+            fault(other + "cup 1", 0);
+            fault("cup" + other + "1", 3);
+            fault("cup " + other, 4);
+            fault("cup 1" + other, 5);
+            fault("cup 1" + other + "tap 1", 5);
+            fault("touch " + other + "1", 6);
+        }
+        fault("touch ;5", 6);
+        fault("touch ; 5", 6);
+        fault("touch -;5", 7);
+        fault("cup 1-tap 1", 5);
+        fault("cup 1;-tap 1", 6);
+        fault("cup 1tap 1", 5);
+        fault("c up 1", 0);
+        fault("cupcup 1", 0);
+        fault("waits 1", 0);
+        fault("zap 1", 0);
+        fault("wait 1 0", 7);
+        fault("wait 999", 5);
+        fault("wait 1000", 5);
+    }
+
+    private static void thirteenthDeed() {
+        String twelve = "tap 1" + ";tap 1".repeat(11);
+        fault(twelve + ";;", 72);
+        fault(twelve + ";-", 72);
+        fault(twelve + ";1", 72);
+        fault(twelve + "  ;  5", 76);
+        fault(twelve + ";   ", 75);
+        fault(twelve + ";cup 12", 72);
+        fault(twelve + "-", 71);
+        fault(twelve + " 1", 72);
+        fault("cup 12" + twelve.substring(5) + ";tap 1", 4);
+        fault(twelve.substring(6) + ";tap 100;tap 1", 70);
+        well(twelve + "   ", 12, 0);
+    }
+
+    /** Each DEED with the least and the greatest of its NUMBERS, and with what is next to them. */
+    private static void everyWord() {
+        String[] words = {"cup", "sealed", "cracked", "deep", "small", "tipping", "roped"};
+        for (int kind = 0; kind < words.length; kind++) {
+            atItsEdges(words[kind], 0, 11);
+            LeakCups x = new LeakCups();
+            Make.read(x, words[kind] + " 0;" + words[kind] + " 11");
+            x.kind(0, 6 - kind);
+            x.kind(11, 6 - kind);
+            x.play(0);
+            due("P20 " + words[kind] + " 0", x.cupOf(0, 0), kind);
+            due("P20 " + words[kind] + " 11", x.cupOf(11, 0), kind);
+        }
+        String[] settings = {"tap", "leak", "rub", "heavy"};
+        for (int what = 0; what < settings.length; what++) {
+            int least = what == 3 ? 1 : 0;
+            atItsEdges(settings[what], least, 99);
+            played(settings[what] + " " + least, what, least);
+            played(settings[what] + " 99", what, 99);
+        }
+        atItsEdges("touch", 0, 200);
+        atItsEdges("touch -", 0, 200);
+        atItsEdges("wait", 1, 50);
+        moved("touch 200", 200, 0);
+        moved("touch -200", -200, 0);
+        moved("touch - 0", 0, 0);
+        moved("wait 1", 0, 1);
+        moved("wait 50", 0, 50);
+    }
+
+    private static void atItsEdges(String word, int least, int most) {
+        int place = word.length() + 1;
+        well(word + " " + least, 1, word.equals("wait") ? least : 0);
+        well(word + " " + most, 1, word.equals("wait") ? most : 0);
+        fault(word + " " + (most + 1), place);
+        if (least > 0) {
+            fault(word + " " + (least - 1), place);
+        }
+        fault(word + " 999", place);
+        fault(word + " 1000", place);
+        fault(word, place - 1);
+        fault(word + " ", place);
+        fault(word + " ;", place);
+        fault(word + " tap 1", place);
+        fault(word + " " + least + " " + least, place + 2);
+        if (!word.equals("touch")) {
+            fault(word + " -" + least, place);
+        }
+    }
+
+    private static void played(String text, int what, int want) {
+        LeakCups x = new LeakCups();
+        Make.read(x, text);
+        x.play(0);
+        due("P20 " + text, x.count(what), want);
+    }
+
+    private static void moved(String text, int pace, int ticks) {
+        LeakCups x = new LeakCups();
+        Make.read(x, text);
+        due("P20 " + text, x.play(0), pace);
+        due("P20 TICKS of " + text, x.now(6), ticks);
     }
 
     private static void fault(String text, int place) {

@@ -15,7 +15,9 @@ public final class SheetsTest {
         copy();
         copyFindings();
         load();
+        loadAtRoom();
         judge();
+        judgeSigns();
         CHECK.end();
     }
 
@@ -241,6 +243,63 @@ public final class SheetsTest {
         due("P38 the last CUP", many.cupOf(11, 1), 111);
         due("P38 all", many.now(3), 12 * 100 + 66);
         due("P38 nothing is spilt", many.now(4), 0);
+    }
+
+    private static void loadAtRoom() {
+        int[] rooms = {999, 999, 999, 999, 200, 500, 200};
+        for (int kind = 0; kind < rooms.length; kind++) {
+            LeakCups x = new LeakCups();
+            x.kind(1, kind);
+            x.fill(1, 7);
+            put(x, 0, 32, 3, rooms[kind] + 1, 3);
+            due("P38 above ROOM of kind " + kind, x.load(0), 1);
+            due("P38 WATER stays", x.cupOf(1, 1), 7);
+            x.write(0, 1, rooms[kind]);
+            due("P38 as much as ROOM of kind " + kind, x.load(0), 3);
+            due("P38 WATER", x.cupOf(1, 1), rooms[kind]);
+            x.write(0, 1, -1);
+            due("P38 below 0", x.load(0), 1);
+            x.write(0, 1, 0);
+            due("P38 0", x.load(0), 3);
+            due("P38 WATER", x.cupOf(1, 1), 0);
+        }
+        for (int n = 0; n <= 14; n++) {
+            LeakCups x = new LeakCups();
+            x.sheet(0, 8, n);
+            for (int i = 0; i < n; i++) {
+                x.write(0, i, 1);
+            }
+            due("P38 of " + n, x.load(0), Math.min(n, 12));
+            due("P38 WATER of all, of " + n, x.now(3), Math.min(n, 12));
+        }
+        LeakCups full = new LeakCups();
+        full.fill(0, 999);
+        full.kind(0, 4);
+        put(full, 0, 16, 200);
+        due("P38 WATER becomes it, whatever it was", full.load(0), 1);
+        due("P38 WATER", full.cupOf(0, 1), 200);
+    }
+
+    /** Numbers with their sign, at the edges of their bits, against PACES. */
+    private static void judgeSigns() {
+        int[][] rows = {
+            {8, 127, 127}, {8, 128, -128}, {8, 255, -1}, {8, 256, 0}, {8, 257, 1}, {8, -128, -128}, {8, -129, 127},
+            {16, 255, 255}, {16, 600, 600}, {16, -600, -600}, {16, 65535, -1}, {16, 65536, 0}, {16, 64936, -600}, {16, 65536 + 600, 600},
+            {32, 600, 600}, {32, -600, -600}, {32, -1, -1}, {32, 0, 0}
+        };
+        for (int[] row : rows) {
+            LeakCups x = even(row[2]);
+            put(x, 0, row[0], row[1], row[1]);
+            due("P39 of " + row[0] + " bits " + row[1], x.judge(0), 0);
+            x.touch(row[2] > 0 ? -1 : 1);
+            due("P39 and nothing else", x.judge(0), 1);
+        }
+        int[][] others = {{8, 300, 300}, {8, 128, 128}, {16, 65535, 0}, {32, 255, -1}, {32, 65535, -1}, {32, 65536, 0}};
+        for (int[] row : others) {
+            LeakCups x = even(row[2]);
+            put(x, 0, row[0], row[1]);
+            due("P39 of " + row[0] + " bits " + row[1] + " is not " + row[2], x.judge(0), 1);
+        }
     }
 
     private static void judge() {

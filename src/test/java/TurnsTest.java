@@ -23,13 +23,8 @@ public final class TurnsTest {
         CHECK.due(what, got, want);
     }
 
-    /** One TICK from rest, behind which PACE is as told: of another sign than ahead of it, that is a TURN. */
     private static void swing(LeakCups x, int pace) {
-        x.stop(0);
-        int cup = pace > 0 ? 3 : 9;
-        x.fill(cup, Math.abs(pace));
-        due("a swing", x.tick(1), pace);
-        x.empty(cup);
+        due("a swing", Make.swing(x, pace), pace);
     }
 
     /** So many TICKS at PACE 0. */
