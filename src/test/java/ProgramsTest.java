@@ -170,6 +170,9 @@ public final class ProgramsTest {
         fault("touch ;5", 6);
         fault("touch ; 5", 6);
         fault("touch -;5", 7);
+        // NUMBERS that are a SIGN's byte
+        fault("tap 1 59 tap 2", 6);
+        fault("touch 45 5", 9);
         fault("cup 1-tap 1", 5);
         fault("cup 1;-tap 1", 6);
         fault("cup 1tap 1", 5);
