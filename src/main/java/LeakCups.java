@@ -23,8 +23,8 @@ public final class LeakCups {
     private final State state = new State();
     private final State kept = new State();
     private boolean isKept;
-    private final Tape tape = new Tape();
-    private final TextReader reader = new TextReader(tape);
+    private final TextReader reader = new TextReader();
+    private final Tape tape = reader.tape;
     private final Sheet[] sheets = new Sheet[SHEETS];
     private final Wheel run = new Wheel();
     private final Wheel otherRun = new Wheel();
@@ -1016,7 +1016,7 @@ public final class LeakCups {
         }
     }
 
-    /** Reads THE TAPE, a TOKEN at a time, as a TEXT. */
+    /** Holds THE TAPE, and reads it, a TOKEN at a time, as a TEXT. */
     private static final class TextReader {
         static final int NO_FAULT = -1;
 
@@ -1027,17 +1027,13 @@ public final class LeakCups {
         private static final int OTHER = 3;
         private static final int NO_DEED = -1;
 
-        private final Tape tape;
+        final Tape tape = new Tape();
         /** What TOKEN stands here (OTHER: none, or the end), and where it begins and ends. */
         private int token;
         private int begin;
         private int end;
         /** A WORD's DEED, a NUMBER's value, a SIGN's byte. */
         private int value;
-
-        TextReader(Tape tape) {
-            this.tape = tape;
-        }
 
         /** The TEXT's DEEDS come into a PROGRAM: its FAULT. */
         int read(Program into) {
