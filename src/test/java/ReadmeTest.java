@@ -27,6 +27,7 @@ public final class ReadmeTest {
         String doc = Files.readString(Path.of(shared, "DOC.md"));
         String readme = Files.readString(Path.of("README.md"));
         example(readme);
+        text(readme);
         tables(readme, doc);
         findings(readme);
         CHECK.end();
@@ -43,6 +44,13 @@ public final class ReadmeTest {
             lines++;
         }
         CHECK.holds("the example is seen: " + lines, lines >= 20);
+    }
+
+    /** What stands between backticks, with ; and a blank in it, and no bracket, is a TEXT. */
+    private static void text(String readme) {
+        Matcher text = Pattern.compile("`([a-z0-9 -]+; [a-z0-9; -]+)`").matcher(readme);
+        CHECK.holds("a TEXT is seen", text.find());
+        CHECK.due("the TEXT " + text.group(1), Make.read(new LeakCups(), text.group(1)), 0);
     }
 
     private static List<String> listed(String text) {
